@@ -380,7 +380,8 @@ public final class IndexRanges {
     private int cellsInUse() {
         int all = 0;
         for (int array = 0; array < arrayCount; array++) {
-            all += (int) bases[array].size;
+            Range base = baseOf(array);
+            all += base == null ? 0 : (int) base.size;
         }
         return all;
     }

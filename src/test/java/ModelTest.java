@@ -9,7 +9,11 @@ import java.util.Random;
  */
 public final class ModelTest {
     private static final int RUNS = 1500;
-    private static final int CALLS = 500;
+    private static final int STEPS = 600;
+
+    /** A step is two calls at most, and nine look at THE HAND at the end: behind call 512 nothing is promised. */
+    private static final int CALLS_AHEAD_OF_LAST_STEP = 501;
+
     private static final BigInteger TOP = BigInteger.valueOf(Long.MAX_VALUE);
     private static final BigInteger ZERO = BigInteger.ZERO;
     private static final BigInteger ONE = BigInteger.ONE;
@@ -565,7 +569,7 @@ public final class ModelTest {
         }
 
         boolean goesWell() {
-            for (int c = 0; c < CALLS; c++) {
+            for (int c = 0; c < STEPS && calls.size() <= CALLS_AHEAD_OF_LAST_STEP; c++) {
                 boolean well = switch (upTo(5)) {
                     case 0 -> make();
                     case 1, 2 -> cells();

@@ -1,83 +1,5 @@
-/**
- * One method a promise: ordinary inputs, the edges that the document names, and wrong inputs. Prints
- * every answer that is not the one that is due and ends with exit code 1 if there was one.
- */
-public final class PromisesTest {
-    private static final long MIN = Long.MIN_VALUE;
-    private static final long MAX = Long.MAX_VALUE;
-    private static final long LONG_UNKNOWN = -1000000101L;
-    private static final long LONG_OUTSIDE = -1000000102L;
-    private static final long LONG_STATE = -1000000103L;
-
-    private static final int UNKNOWN = -101;
-    private static final int OUTSIDE = -102;
-    private static final int STATE = -103;
-    private static final int ROOM = -104;
-    private static final int MANY = -1;
-
-    private static int asked;
-    private static int wrong;
-
-    private interface Call {
-        long answer();
-    }
-
-    private static void due(String what, long want, long got) {
-        asked++;
-        if (got != want) {
-            wrong++;
-            System.out.println(what + " answered " + got + ", due is " + want);
-        }
-    }
-
-    private static void dueThrow(String what, Class<? extends RuntimeException> want, Call call) {
-        asked++;
-        String got;
-        try {
-            got = "answered " + call.answer();
-        } catch (RuntimeException e) {
-            if (e.getClass() == want) {
-                return;
-            }
-            got = "threw " + e.getClass().getName();
-        }
-        wrong++;
-        System.out.println(what + " " + got + ", due is " + want.getSimpleName());
-    }
-
-    private static void dueMissed(String what, Call call) {
-        dueThrow(what, IndexOutOfBoundsException.class, call);
-    }
-
-    private static void dueMiss(String what, IndexRanges x, int single, int number, int depth) {
-        due(what + ": miss(0)", single, x.miss(0));
-        due(what + ": miss(1)", number, x.miss(1));
-        due(what + ": miss(2)", depth, x.miss(2));
-    }
-
-    /** The row of a RANGE, by element and by index, there and back. */
-    private static void dueRow(String what, IndexRanges x, int range, long... row) {
-        due(what + ": size", row.length, x.size(range));
-        for (int k = 0; k < row.length; k++) {
-            due(what + ": element " + k, 1, x.element(range, k));
-            due(what + ": held", row[k], x.held(0));
-            due(what + ": index", k, x.index(range));
-        }
-        dueMissed(what + ": element behind the row", () -> x.element(range, row.length));
-    }
-
-    private static void dueHand(String what, IndexRanges x, long... numbers) {
-        for (int k = 0; k < numbers.length; k++) {
-            due(what + ": held(" + k + ")", numbers[k], x.held(k));
-        }
-    }
-
-    private static void holdAll(IndexRanges x, long... numbers) {
-        for (int k = 0; k < numbers.length; k++) {
-            x.hold(k, numbers[k]);
-        }
-    }
-
+/** One method a promise: ordinary inputs, edges and wrong inputs, all together. */
+public final class PromisesTest extends Checks {
     private static IndexRanges full() {
         IndexRanges x = new IndexRanges();
         for (int k = 0; k < 40; k++) {
@@ -422,14 +344,14 @@ public final class PromisesTest {
         holdAll(x, 3, MIN, 1);
         due("a triple's second row of MANY", MANY, x.index(5));
         holdAll(x, 5, 9);
-        dueMissed("index of what is missed", () -> x.index(3));
+        dueOut("index of what is missed", () -> x.index(3));
         dueMiss("index", x, 1, 0, 1);
         due("index(6)", LONG_UNKNOWN, x.index(6));
         due("index(-1)", LONG_UNKNOWN, x.index(-1));
         int none = x.wholes(1, 0);
         int manyAndNone = x.pair(0, none);
         holdAll(x, MAX, 3);
-        dueMissed("index in none behind MANY", () -> x.index(manyAndNone));
+        dueOut("index in none behind MANY", () -> x.index(manyAndNone));
         dueMiss("none behind MANY", x, none, 1, 1);
         due("missed twice", 2, x.count(2));
     }
@@ -476,12 +398,12 @@ public final class PromisesTest {
         x.wholes(1, 0);
         x.hold(0, 9);
         due("has(1)", 0, x.has(1));
-        dueMissed("element(1, 3)", () -> x.element(1, 3));
-        dueMissed("element(1, -1)", () -> x.element(1, -1));
-        dueMissed("element(1, MAX)", () -> x.element(1, MAX));
-        dueMissed("element(0, -1)", () -> x.element(0, -1));
-        dueMissed("element(0, MIN)", () -> x.element(0, MIN));
-        dueMissed("element(3, 0)", () -> x.element(3, 0));
+        dueOut("element(1, 3)", () -> x.element(1, 3));
+        dueOut("element(1, -1)", () -> x.element(1, -1));
+        dueOut("element(1, MAX)", () -> x.element(1, MAX));
+        dueOut("element(0, -1)", () -> x.element(0, -1));
+        dueOut("element(0, MIN)", () -> x.element(0, MIN));
+        dueOut("element(3, 0)", () -> x.element(3, 0));
         dueMiss("THE MISS stays", x, 1, 0, 0);
         due("it is the only one", 1, x.count(2));
         due("THE HAND stays", 9, x.held(0));
@@ -504,21 +426,21 @@ public final class PromisesTest {
         dueHand("go back", x, 1, 10, 77);
         due("go in BACK", 2, x.go(4, -5));
         dueHand("go in BACK", x, 2, 7);
-        dueMissed("go ahead of the first", () -> x.go(4, -3));
-        dueMissed("go behind the last", () -> x.go(4, 6));
-        dueMissed("go MAX", () -> x.go(4, MAX));
-        dueMissed("go MIN", () -> x.go(4, MIN));
+        dueOut("go ahead of the first", () -> x.go(4, -3));
+        dueOut("go behind the last", () -> x.go(4, 6));
+        dueOut("go MAX", () -> x.go(4, MAX));
+        dueOut("go MIN", () -> x.go(4, MIN));
         dueHand("THE HAND stays", x, 2, 7);
         due("no miss by that", 0, x.count(2));
         due("no miss by that", STATE, x.miss(0));
         holdAll(x, 2, 5);
-        dueMissed("go from what is missed", () -> x.go(3, 1));
+        dueOut("go from what is missed", () -> x.go(3, 1));
         dueMiss("go from what is missed", x, 1, 1, 1);
         x.hold(0, MIN);
         due("go as far as can be told", MAX, x.go(0, MAX));
         dueHand("go as far as can be told", x, -1);
-        dueMissed("a place that can't be told", () -> x.go(0, 1));
-        dueMissed("a place that can't be told, MAX", () -> x.go(0, MAX));
+        dueOut("a place that can't be told", () -> x.go(0, 1));
+        dueOut("a place that can't be told, MAX", () -> x.go(0, MAX));
         due("go all the way back", 0, x.go(0, -MAX));
         dueHand("go all the way back", x, MIN);
         x.hold(0, 0);
@@ -627,7 +549,7 @@ public final class PromisesTest {
         due("array: ROOM comes ahead of what is thrown", ROOM, x.array(2));
         due("array: UNKNOWN comes ahead", UNKNOWN, x.array(4));
         due("arrays", 6, x.count(1));
-        dueMissed("at over none", () -> x.at(1));
+        dueOut("at over none", () -> x.at(1));
     }
 
     private static void promise20Put() {
@@ -650,7 +572,7 @@ public final class PromisesTest {
         due("the last cell", 0, x.put(0, 5));
         due("the last cell", 5, x.at(0));
         holdAll(x, 7, 21);
-        dueMissed("put of what is missed", () -> x.put(0, 9));
+        dueOut("put of what is missed", () -> x.put(0, 9));
         dueMiss("put", x, 0, 1, 1);
         due("put(2, 1)", UNKNOWN, x.put(2, 1));
         due("put(-1, 1)", UNKNOWN, x.put(-1, 1));
@@ -673,7 +595,7 @@ public final class PromisesTest {
             due("at(1)", 0, x.at(1));
         }
         x.hold(0, 2);
-        dueMissed("at of what is missed", () -> x.at(1));
+        dueOut("at of what is missed", () -> x.at(1));
         dueMiss("at", x, 0, 0, 1);
         due("at(2)", UNKNOWN, x.at(2));
         due("at(-1)", UNKNOWN, x.at(-1));
@@ -772,34 +694,6 @@ public final class PromisesTest {
     }
 
     public static void main(String[] args) {
-        promise1NewObject();
-        promise2Wholes();
-        promise3Signs();
-        promise4Names();
-        promise5Steps();
-        promise6Back();
-        promise7Pair();
-        promise8Triple();
-        promise9Told();
-        promise10Size();
-        promise11Hold();
-        promise12Held();
-        promise13Index();
-        promise14Has();
-        promise15Element();
-        promise16Go();
-        promise17Miss();
-        promise18Within();
-        promise19Array();
-        promise20Put();
-        promise21At();
-        promise22Sum();
-        promise23Over();
-        promise24Count();
-        promise25Clear();
-        System.out.println((asked - wrong) + " answers as due, " + wrong + " not");
-        if (wrong != 0) {
-            System.exit(1);
-        }
+        runTests(PromisesTest.class);
     }
 }
